@@ -801,9 +801,9 @@ public final class DotOutlines {
     /** Which stretches are straight, and how far their corners lie off. */
     static final class Stretches {
         static final int CROOKED = -1;
-        // A straight stretch keeps to two corners a column (or row) of nine, and a border comes to a
-        // corner twice at most: no more than 36 corners, 35 steps.
-        static final int STEPS_MOST = 35;
+        // Within half a dot of a line through its ends, a border has no room to turn back, and none to
+        // step aside but where the line is half a dot off, every second step ahead or later: 8 and 4.
+        static final int STEPS_MOST = 12;
         private static final int ROOM = STEPS_MOST + 1;
 
         private final Borders borders;
@@ -898,6 +898,7 @@ public final class DotOutlines {
         }
 
         int fewestThrough(Border b, int i) {
+            stretches.measure(b);
             return costOfRound(b, i) / VERTEX;
         }
 
@@ -945,6 +946,7 @@ public final class DotOutlines {
             if (b.vertices > 0) {
                 return;
             }
+            stretches.measure(b);
             int first = 0;
             int least = ENDLESS;
             // The last stretch ends at the first vertex, so that cannot lie further on than a stretch is long.
@@ -960,11 +962,10 @@ public final class DotOutlines {
         }
 
         /**
-         * The least cost of a polygon that has corner i; costs[j] is then that of going on from
+         * Of a measured border: the least cost of a polygon that has corner i; costs[j] is then that of going on from
          * j steps behind i to the end of the round.
          */
         private int costOfRound(Border b, int i) {
-            stretches.measure(b);
             int length = Math.min(b.length, Borders.STEPS_MOST);
             if (length <= 0) {
                 return 0;

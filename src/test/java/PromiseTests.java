@@ -49,6 +49,10 @@ public final class PromiseTests {
   private static final String PAIR = "d22;xo;ox;";
   private static final String ONE = "d11;x;";
   // a square that stands on its corner: its sides go up one dot a step
+  // stairs of two dots a step: the longest straight stretch there can be goes along them
+  private static final String STAIRS = "d85;xooooooo;xxxooooo;xxxxxooo;xxxxxxxo;xxxxxxxx;";
+  // a square without its upper left dots: BEST goes (2,0) (8,0) (8,8) (0,8) (0,4)
+  private static final String CUT = "d88;ooxxxxxx;oxxxxxxx;oxxxxxxx;" + "xxxxxxxx;".repeat(5);
   private static final String DIAMOND = "d55;ooxoo;oxxxo;xxxxx;oxxxo;ooxoo;";
 
   private static void newObject() {
@@ -458,6 +462,8 @@ public final class PromiseTests {
     due("4 steps from 0", d.off(0, 0, 4), NONE);
     // (2,0) (3,0) (3,1) (4,1): C is 1 and 1
     due("3 steps from 2", d.off(0, 2, 3), 2);
+    // every corner beside the line is off by half a dot: C is 4, eight times
+    due("the stairs", of(STAIRS).off(0, 0, 12), 8 * 16);
     due("s of LONG", d.off(0, 0, 22), BAD);
     due("s of 0", d.off(0, 0, 0), BAD);
     due("i of LONG", d.off(0, 22, 1), BAD);
@@ -477,6 +483,7 @@ public final class PromiseTests {
     for (int i = 0; i < want.length; i++) due("longest(0, " + i + ")", d.longest(0, i), want[i]);
     due("the lower edge", d.longest(0, 11), 8);
     due("the left edge", d.longest(0, 19), 3);
+    due("the stairs", of(STAIRS).longest(0, 0), 12);
     due("i of LONG", d.longest(0, 22), BAD);
     due("i below 0", d.longest(0, -1), BAD);
     due("no border", d.longest(1, 0), BAD);
@@ -491,7 +498,6 @@ public final class PromiseTests {
     dueBest("slope", of(SLOPE), 0, 6, 12, 3, 34);
     dueBest("the whole", of("d88;" + "xxxxxxxx;".repeat(8)), 0, 4, 0, 4, 128);
     dueBest("a hole", of(RING), 1, 4, 0, 4, 2);
-    // six corners of an L of dots: each turn needs a vertex, but (2,1)(1,1)(1,2) can be passed by none
     dueBest("an L", of("d44;xooo;xooo;xooo;xxxx;"), 0, 6, 0, 6, 14);
     d = of(SLOPE);
     d.sharp(1);
@@ -571,8 +577,6 @@ public final class PromiseTests {
     due("sharp then", d.point(0, 1, 1, 0), NONE);
   }
 
-  // Where BEST is a square that stands on its corner (inner border of run 3 of the shared test),
-  // the light dots at its four tips are the ones whose centres lie near its sides.
   private static void filled() {
     promise = 22;
     DotOutlines d = new DotOutlines();
@@ -585,6 +589,16 @@ public final class PromiseTests {
       for (int y = 0; y < 2; y++)
         for (int x = 0; x < 2; x++)
           due("filled(0, " + kind + ", " + x + ", " + y + ")", d.filled(0, kind, x, y), rows[y].charAt(x) == 'x' ? 1 : 0);
+    // rounded at (2,0), the second point of three is the centre of dot 2, 0: no side is at less x
+    DotOutlines cut = of(CUT);
+    due("cut, BEST", cut.filled(0, 0, 2, 0), 1);
+    due("cut, sharp yet", cut.filled(0, 1, 2, 0), 1);
+    cut.sharp(32);
+    due("cut, 32 times x", cut.point(0, 0, 2, 0), 80);
+    due("cut, 32 times y", cut.point(0, 0, 2, 1), 16);
+    due("cut, BEST still", cut.filled(0, 0, 2, 0), 1);
+    due("cut, rounded", cut.filled(0, 1, 2, 0), 0);
+    due("cut, the next one", cut.filled(0, 1, 3, 0), 1);
     due("kind of 2", d.filled(0, 2, 0, 0), BAD);
     due("kind below 0", d.filled(0, -1, 0, 0), BAD);
     due("x of W", d.filled(0, 0, 2, 0), BAD);
@@ -600,6 +614,11 @@ public final class PromiseTests {
     d = of(SLOPE);
     due("differ(0, 0)", d.differ(0, 0), 0);
     due("differ(0, 1)", d.differ(0, 1), 0);
+    DotOutlines cut = of(CUT);
+    due("cut, sharp yet", cut.differ(0, 1), 0);
+    cut.sharp(32);
+    due("cut, BEST", cut.differ(0, 0), 0);
+    due("cut, rounded", cut.differ(0, 1), 1);
     due("kind of 2", d.differ(0, 2), BAD);
     due("kind below 0", d.differ(0, -1), BAD);
     due("no border", d.differ(1, 0), BAD);
@@ -614,6 +633,13 @@ public final class PromiseTests {
     d = of(RING);
     due("wrong(0)", d.wrong(0), 0);
     due("wrong(1)", d.wrong(1), 0);
+    DotOutlines cut = of(CUT);
+    cut.sharp(32);
+    due("cut, BEST", cut.wrong(0), 0);
+    due("cut, rounded", cut.wrong(1), 1);
+    // a hole does not change what is wrong elsewhere, and its own border puts its dot right
+    cut.flip(5, 5);
+    due("cut with a hole", cut.wrong(1), 1);
     due("wrong(2)", d.wrong(2), BAD);
     due("wrong(-1)", d.wrong(-1), BAD);
     due("light", of("d22;oo;oo;").wrong(1), 0);
