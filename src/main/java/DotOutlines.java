@@ -32,10 +32,13 @@ public final class DotOutlines {
         imageZero = new Picture();
         imageOne = new Picture();
         acts = new Acts();
-        found = new Borders();
-        stretches = new Stretches(found);
-        polygons = new Polygons(found, stretches);
-        filling = new Filling(polygons);
+        Borders walks = new Borders();
+        Stretches measures = new Stretches(walks);
+        Polygons shapes = new Polygons(walks, measures);
+        found = walks;
+        stretches = measures;
+        polygons = shapes;
+        filling = new Filling(shapes);
     }
 
     // ---- what is told

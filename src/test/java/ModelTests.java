@@ -512,11 +512,26 @@ public final class ModelTests {
 
   private static String text() {
     int w = pick(3) == 0 ? 8 : 1 + pick(8), h = pick(3) == 0 ? 8 : 1 + pick(8);
+    if (pick(5) == 0) return stairs(w, h);
     int manner = pick(6), a = pick(8), b = pick(8), size = 1 + pick(20), share = 1 + pick(9);
     StringBuilder text = new StringBuilder("d").append(w).append(h).append(';');
     for (int y = 0; y < h; y++) {
       for (int x = 0; x < w; x++) text.append(isDark(manner, x, y, a, b, size, share) ? 'x' : 'o');
       text.append(';');
+    }
+    return text.toString();
+  }
+
+  // rows whose ends go in and out by a few dots each: many polygons of a border are nearly alike there
+  private static String stairs(int w, int h) {
+    StringBuilder text = new StringBuilder("d").append(w).append(h).append(';');
+    int left = pick(w), right = left + pick(w), goLeft = pick(3) - 1, goRight = pick(3) - 1;
+    for (int y = 0; y < h; y++) {
+      for (int x = 0; x < w; x++) text.append(x >= left && x <= right ? 'x' : 'o');
+      text.append(';');
+      left += goLeft * pick(4);
+      right += goRight * pick(4);
+      if (pick(6) == 0) { goLeft = -goLeft; goRight = pick(3) - 1; }
     }
     return text.toString();
   }
@@ -687,6 +702,7 @@ public final class ModelTests {
       wholePicture("d88;" + "oxoxoxox;xoxoxoxo;".repeat(4), joined, 8);
       wholePicture("d88;" + "xxxxxxxx;".repeat(8), joined, 8);
       wholePicture("d85;xooooooo;xxxooooo;xxxxxooo;xxxxxxxo;xxxxxxxx;", joined, 8);
+      wholePicture("d86;xxxxxxxx;xxxxxxxo;xxxxxxoo;xxxxoooo;xxxooooo;xooooooo;", joined, 32);
       wholePicture("d88;xxxxxxxx;xoooooox;xoxxxxox;xoxooxox;xoxoxxox;xoxooooo;xoxxxxxx;xooooooo;", joined, 8);
     }
     for (int n = 0; n < 300 * times; n++) wholePicture(text(), pick(2), 1 + pick(32));
