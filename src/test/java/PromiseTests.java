@@ -48,11 +48,11 @@ public final class PromiseTests {
   private static final String RING = "d33;xxx;xox;xxx;";
   private static final String PAIR = "d22;xo;ox;";
   private static final String ONE = "d11;x;";
-  // a square that stands on its corner: its sides go up one dot a step
   // stairs of two dots a step: the longest straight stretch there can be goes along them
   private static final String STAIRS = "d85;xooooooo;xxxooooo;xxxxxooo;xxxxxxxo;xxxxxxxx;";
   // a square without its upper left dots: BEST goes (2,0) (8,0) (8,8) (0,8) (0,4)
   private static final String CUT = "d88;ooxxxxxx;oxxxxxxx;oxxxxxxx;" + "xxxxxxxx;".repeat(5);
+  // a square that stands on its corner: its sides go up one dot a step
   private static final String DIAMOND = "d55;ooxoo;oxxxo;xxxxx;oxxxo;ooxoo;";
 
   private static void newObject() {
