@@ -752,9 +752,10 @@ public final class EdgeTests {
     due("through a centre: 32 times x, y", through.point(0, 5, 2, 0) + " " + through.point(0, 5, 2, 1), "48 112");
     due("through a centre", filled(through, 0, 1), "xxxooo;xxxxoo;oxxxxx;ooxxxx;");
     // sides that cross less than a 32nd of a dot to the left of a centre: from 16, 160 to 15, 129 at a height of 144;
-    // from 168, 100 to 186, 129 at a height of 112, where the centre has 176
+    // from 168, 100 to 186, 129 at a height of 112, where the centre has 176; from 19, 96 to 12, 128 at a height of 112
     due("just to the left", sharp("d77;oooooxx;oooxxxx;oxxxxxx;xxxxxxx;xxxxxxx;oxxxxxx;oxxxxxx;", 32).filled(0, 1, 0, 4), 1);
     due("just to the left", sharp("d67;xooooo;xxxooo;xxxxxo;xxxxxx;xxxxxx;xxxxxx;xxxxxx;", 32).filled(0, 1, 5, 3), 0);
+    due("just to the left", sharp("d48;ooxx;oxxx;oxxx;xxxx;xxxx;xxxx;oxxx;oxxx;", 32).filled(0, 1, 0, 3), 1);
     // the second point at (0,1) is 24, 40, the first one 6, 58: at a height of 48 by 16, the centre of dot 0, 1, once more
     due("through a centre, between two points", filled(sharp("d64;oooxxx;xxxxxx;xxxxxx;xxxxxx;", 32), 0, 1), "oooxxx;oxxxxx;xxxxxx;xxxxxx;");
     due("the highest point at 128, 12 and 160, 11", filled(sharp("d83;oooxxxoo;oxxxxxxx;xxxxxxxx;", 32), 0, 1), "oooxxxoo;oxxxxxxx;xxxxxxxx;");
@@ -882,6 +883,7 @@ public final class EdgeTests {
     due("of 1", read(f, "d1") + " " + f.fault(), "-1000102 1");
     due("of 2 again", read(f, "d11;a;") + " " + f.fault(), "-1000104 2");
     due("behind a refused call", f.feed(256) + " " + f.fault(), BAD + " 2");
+    due("behind an image", f.image(0) + " " + f.restore(0) + " " + f.fault(), "1 1 2");
 
     says(5, "The latest ACT is undone: how many can be undone yet.");
     DotOutlines u = of(PAIR);
