@@ -11,7 +11,8 @@ import java.util.function.ToIntFunction;
 // beyond it on either side, the empty and the full, the call that is refused, and that a refused call changes
 // nothing. says() quotes the sentence that the answers below it are about; at the end the quotes are held against
 // ../shared/DOC.md: each stands there, and none of the words under 'Terms' and the promises goes unquoted.
-// The answers were worked out by hand; no object is used for more than 512 calls.
+// The answers for the small pictures were worked out by hand; some for the greater ones were read off the program and
+// found to be those of the model in ModelTests, too. No object is used for more than 512 calls.
 public final class EdgeTests {
   private static final int NONE = -1000000, BAD = -1000001, STATE = -1000002, FULL = -1000003;
   private static final int LOW = Integer.MIN_VALUE, HIGH = Integer.MAX_VALUE;
